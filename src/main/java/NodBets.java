@@ -1159,7 +1159,7 @@ public final class NodBets {
 
     /** Asks of lies, by bodies that call one another, and the trace that the latest ask left. */
     private static final class Asks {
-        private static final int SIZE = 0, MARK = 1;
+        private static final int SIZE = 0;
         /** By kind; with 0 the kind has no body of its own. */
         private static final int[] SIZE_BODIES = {10, 11, 12, 0, 13, 14};
         private static final int[] MARK_BODIES = {20, 21, 24, 22, 23, 0};

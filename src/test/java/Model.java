@@ -10,7 +10,7 @@ import java.util.regex.Pattern;
 
 /**
  * The document once more, as plainly as the Java library lets it be said and by other means than the program:
- * texts by tokens, telling by lists, orders by trying them all. MODEL answers are compared in ModelTest.
+ * texts by tokens, telling by lists, orders by trying them all. ModelTest compares the answers.
  */
 final class Model {
     private static final int NONE = -1000000, BAD = -1000001, STATE = -1000002, FULL = -1000003;
@@ -102,7 +102,6 @@ final class Model {
         return tape.length();
     }
 
-    /** A number stands for any number here: N and its bounds. */
     private static final Pattern TOKEN = Pattern.compile("[0-9]+|.", Pattern.DOTALL);
 
     int town() {
@@ -120,7 +119,7 @@ final class Model {
         int stake = 0;
         List<Lie> lies = new ArrayList<>();
         List<Stranger> strangers = new ArrayList<>();
-        // Parts of what is read: the letter, the first number, the second.
+        // What is being read: its letter and its numbers; and what may stand next (N a number, E the end).
         char part = 0;
         int first = 0;
         int second = 0;

@@ -6,6 +6,7 @@ public final class RowsTest {
 
     public static void main(String[] args) {
         makesRows();
+        keepsRowsApart();
         setsItems();
         copiesItems();
         dropsRows();
@@ -40,6 +41,18 @@ public final class RowsTest {
         Check.fill(y, 3, 3, 3, 3, 3);
         y.row(3, 2, 4);
         check.due("items are 0 at first: lie 0, not nodded", y.trusted(0, 3, 0, 1), 31);
+    }
+
+    private static void keepsRowsApart() {
+        NodBets x = Check.town("t1;e5,0;e9,0;s0,0;");
+        for (int row = 1; row < 8; row++) {
+            Check.fill(x, row, 1, 1);
+            check.due("a full row ahead of " + row, x.row(row - 1, 2, 40), 40);
+            x.set(row - 1, 39, 7);
+            check.due("row " + row + " stays", x.trusted(0, row, 0, 1), 2097151 & ~511);
+        }
+        check.due("row(7, 2, 40)", x.row(7, 2, 40), 40);
+        check.due("its last item", x.set(7, 39, 6), 6);
     }
 
     private static void setsItems() {

@@ -74,7 +74,7 @@ public final class TellingsTest {
         NodBets x = Check.town("t1;h9,0;l1,1;s9,0;");
         x.tell(0, 0);
         check.due("TRUST", x.stranger(0, 0), 10);
-        // By trust 5 it nods at the habit, as one nod makes its need 7, only from 7 on.
+        // The nod it gave already makes the habit's need 7.
         Check.fill(x, 0, 0, 1, 0, 1, 0, 1);
         check.due("told anew: need 7", x.trusted(0, 0, 0, 1), 2097151 & ~127);
         Check.fill(x, 0, 0, 0, 0, 1, 1, 0);
