@@ -2,12 +2,38 @@
 final class Check {
     private int wrong = 0;
     private int made = 0;
+    private int madeAhead = 0;
+    private int sentences = 0;
+    private String sentence = "";
+
+    /** What is checked from now on belongs to this sentence of the document. */
+    void sentence(String quoted) {
+        endSentence();
+        sentence = quoted;
+        sentences++;
+        madeAhead = made;
+    }
+
+    private void endSentence() {
+        if (!sentence.isEmpty() && made == madeAhead) {
+            wrong++;
+            System.out.println("nothing was checked of: " + sentence);
+        }
+    }
 
     void due(String call, int got, int want) {
         made++;
         if (got != want) {
             wrong++;
-            System.out.println(call + " answered " + got + ", due is " + want);
+            tell(call + " answered " + got + ", due is " + want);
+        }
+    }
+
+    void same(String what, String got, String want) {
+        made++;
+        if (!got.equals(want)) {
+            wrong++;
+            tell(what + " is\n  " + got + ", due is\n  " + want);
         }
     }
 
@@ -15,12 +41,18 @@ final class Check {
         made++;
         if (!so) {
             wrong++;
-            System.out.println("does not hold: " + what);
+            tell("does not hold: " + what);
         }
     }
 
+    private void tell(String what) {
+        System.out.println(sentence.isEmpty() ? what : "\"" + sentence + "\": " + what);
+    }
+
     void end() {
-        System.out.println(made + " checks, " + wrong + " wrong");
+        endSentence();
+        System.out.println(made + " checks" + (sentences > 0 ? " of " + sentences + " sentences" : "")
+                + ", " + wrong + " wrong");
         if (wrong != 0 || made == 0) {
             System.exit(1);
         }
@@ -44,7 +76,11 @@ final class Check {
 
     /** Makes a row of ints that holds these items. */
     static void fill(NodBets bets, int row, int... items) {
-        bets.row(row, 2, items.length);
+        fillLane(bets, row, 2, items);
+    }
+
+    static void fillLane(NodBets bets, int row, int lane, int... items) {
+        bets.row(row, lane, items.length);
         for (int i = 0; i < items.length; i++) {
             bets.set(row, i, items[i]);
         }
