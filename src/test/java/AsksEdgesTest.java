@@ -266,8 +266,9 @@ public final class AsksEdgesTest {
     }
 
     private static void tracesTheEnds() {
-        check.sentence("Number i of THE TRACE; NONE.");
+        check.sentence("Number i of THE TRACE; NONE. .. (the first 16)");
         NodBets x = Check.town(FIVE);
+        // No ask begins more than six bodies, so that the sixteenth is never there.
         x.ask(1, 0);
         check.due("the first", x.trace(0), 12);
         check.due("the last", x.trace(5), 20);

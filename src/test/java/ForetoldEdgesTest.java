@@ -217,6 +217,7 @@ public final class ForetoldEdgesTest {
         comes("by the other one", y, 0, 1, 2);
         y.tell(0, 2);
         comes("by none", y, 0, 0, NONE);
+        comes("by none twice", Check.town("t1;e7,0;e5,1;a20,2;s5,0;"), 0, NONE, NONE);
         NodBets z = Check.town("t1;e6,0;e5,1;s5,0;");
         z.tell(0, 1);
         z.tell(0, 0);
@@ -261,6 +262,7 @@ public final class ForetoldEdgesTest {
         check.due("no LIES", Check.town("t1;s9,0;").dead(0), 0);
         check.due("20 by doubt", Check.town("t1;e17,0;e18,0;s20,1;").dead(0), 2);
         check.due("20 twice ten", Check.town("t1;a10,0;a11,0;s20,0;").dead(0), 2);
+        check.due("one comes in by no other twice", Check.town("t1;e7,0;e5,1;a20,2;s5,0;").dead(0), 5);
         check.due("a proof alone of its TOPIC", Check.town("t1;p1,0;e1,1;s20,0;").dead(0), 1);
         check.due("a proof with another", Check.town("t1;p1,1;e1,1;s20,0;").dead(0), 0);
         check.due("a lame one of two LIES", Check.town("t1;l1,1;e1,1;s20,0;").dead(0), 1);

@@ -117,6 +117,13 @@ public final class RowsEdgesTest {
         check.due("its item is a byte", x.set(0, 0, 255), -1);
         check.due("none, in place of one", x.row(0, 1, 0), 0);
         check.due("how many ROWS", x.count(0), 3);
+        for (int row = 0; row < 6; row++) {
+            x.row(row, 2, 40);
+            Check.fill(x, row + 1, 3);
+            x.row(row, 2, 40);
+            x.set(row, 39, 5);
+            items("the next one stays, behind a full one", x, row + 1, 3);
+        }
     }
 
     private static void refusesRows() {

@@ -1,3 +1,5 @@
+import java.util.function.ToIntFunction;
+
 /** The edges that the document names of texts: section 1, promises 1 and 6 to 8. */
 public final class TextsEdgesTest {
     private static final Check check = new Check();
@@ -137,36 +139,36 @@ public final class TextsEdgesTest {
     }
 
     private static void numbersAsTold() {
-        check.sentence("STAKE (1 to 9) .. WEIGHT (1 to 20), TOPIC (0 to 3) .. TRUST (0 to 20), DOUBTS (0 to 15): "
-                + "2 a NUMBER that is not as told");
+        check.sentence("law: t STAKE ; (1 to 9)");
+        numbers("t", ";", 1, 9, x -> x.count(3));
+        check.sentence("lie: SORT WEIGHT , TOPIC ; .. 1 to 20");
+        numbers("t1;e", ",0;", 1, 20, x -> x.lie(0, 0));
+        check.sentence("lie: SORT WEIGHT , TOPIC ; .. 0 to 3");
+        numbers("t1;e20,", ";", 0, 3, x -> x.lie(0, 1));
+        check.sentence("stranger: s TRUST , DOUBTS ; (0 to 20");
+        numbers("t1;s", ",0;", 0, 20, x -> x.stranger(0, 0));
+        check.sentence("stranger: s TRUST , DOUBTS ; .. a set of TOPICS, 0 to 15");
+        numbers("t1;s20,", ";", 0, 15, x -> x.stranger(0, 1));
+    }
+
+    /** Every number of one or two figures between two parts of a text: as told, or FAULT 2 at its first figure. */
+    private static void numbers(String ahead, String behind, int least, int most, ToIntFunction<NodBets> what) {
         for (int v = 0; v < 100; v++) {
-            numberAsTold(v, "" + v);
-            numberAsTold(v, v < 10 ? "0" + v : "" + v);
+            number(ahead, "" + v, behind, v >= least && v <= most, what);
+            if (v < 10) {
+                number(ahead, "0" + v, behind, v >= least && v <= most, what);
+            }
         }
     }
 
-    private static void numberAsTold(int v, String figures) {
-        NodBets x = new NodBets();
-        Check.feed(x, "t" + figures + ";");
-        toldIf(v >= 1 && v <= 9, x, 0, 1, x.town() == 0 ? x.count(3) : BAD, v);
-        x = new NodBets();
-        Check.feed(x, "t1;e" + figures + ",0;");
-        toldIf(v >= 1 && v <= 20, x, 0, 4, x.town() == 0 ? x.lie(0, 0) : BAD, v);
-        x = new NodBets();
-        Check.feed(x, "t1;e5," + figures + ";");
-        toldIf(v <= 3, x, 0, 6, x.town() == 0 ? x.lie(0, 1) : BAD, v);
-        x = new NodBets();
-        Check.feed(x, "t1;s" + figures + ",0;");
-        toldIf(v <= 20, x, 1, 4, x.town() == 1 ? x.stranger(0, 0) : BAD, v);
-        x = new NodBets();
-        Check.feed(x, "t1;s20," + figures + ";");
-        toldIf(v <= 15, x, 1, 7, x.town() == 1 ? x.stranger(0, 1) : BAD, v);
-    }
-
-    private static void toldIf(boolean told, NodBets x, int strangers, int place, int got, int v) {
-        check.due("the number " + v + " at " + place, got, told ? v : BAD);
-        check.due("fault() of " + v + " at " + place, x.fault(), told ? 0 : 2);
-        check.due("count(2) of " + v + " at " + place, x.count(2), told ? strangers : 0);
+    private static void number(String ahead, String v, String behind, boolean told, ToIntFunction<NodBets> what) {
+        String text = ahead + v + behind;
+        if (told) {
+            int strangers = text.contains("s") ? 1 : 0;
+            check.due(text, what.applyAsInt(read(text, strangers)), Integer.parseInt(v));
+        } else {
+            faulty(text, ahead.length(), 2);
+        }
     }
 
     private static void sorts() {
