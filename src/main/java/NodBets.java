@@ -18,8 +18,8 @@ public final class NodBets {
     private final Town draft = new Town();
     private final Town[] images = new Town[IMAGES];
     private final Acts acts = new Acts();
-    private final Foresight foresight = new Foresight(current);
-    private final Asks asks = new Asks(current);
+    private final Foresight foresight = new Foresight();
+    private final Asks asks = new Asks();
     private int latestFinding = 0;
 
     public NodBets() {
@@ -114,7 +114,7 @@ public final class NodBets {
             return STATE;
         }
         acts.keepAhead(current, stranger);
-        Mind mind = foresight.mindOf(stranger);
+        Mind mind = foresight.mindOf(current, stranger);
         boolean nodded = mind.hear(current, lie);
         current.noteTold(stranger, lie, nodded, mind.trust);
         return nodded ? 1 : 0;
@@ -125,7 +125,7 @@ public final class NodBets {
             return BAD;
         }
         acts.keepAhead(current, stranger);
-        Mind mind = foresight.mindOf(stranger);
+        Mind mind = foresight.mindOf(current, stranger);
         mind.dine();
         current.noteSupper(stranger, mind.trust);
         return mind.trust;
@@ -181,7 +181,7 @@ public final class NodBets {
         if (!current.hasStranger(stranger) || !current.hasLie(lie)) {
             return BAD;
         }
-        return foresight.mindOf(stranger).needOf(current, lie);
+        return foresight.mindOf(current, stranger).needOf(current, lie);
     }
 
     // ---- foretold
@@ -190,7 +190,7 @@ public final class NodBets {
         if (!current.hasStranger(stranger)) {
             return BAD;
         }
-        return foresight.nodsNow(stranger);
+        return foresight.nodsNow(current, stranger);
     }
 
     public int order(int stranger, int lies, int k) {
@@ -200,7 +200,7 @@ public final class NodBets {
         if ((current.told[stranger] & lies) != 0) {
             return STATE;
         }
-        foresight.seekOrder(stranger, lies);
+        foresight.seekOrder(current, stranger, lies);
         return k < 0 ? foresight.bestNods() : foresight.bestAt(k);
     }
 
@@ -211,7 +211,7 @@ public final class NodBets {
         if (current.wasTold(stranger, lie)) {
             return STATE;
         }
-        int ahead = foresight.fewestAhead(stranger, lie);
+        int ahead = foresight.fewestAhead(current, stranger, lie);
         if (what == 0) {
             return ahead;
         }
@@ -222,7 +222,7 @@ public final class NodBets {
         if (!current.hasStranger(stranger)) {
             return BAD;
         }
-        return foresight.deadLies(stranger);
+        return foresight.deadLies(current, stranger);
     }
 
     public int help(int stranger, int what) {
@@ -233,7 +233,7 @@ public final class NodBets {
         int first = NONE;
         for (int a = 0; a < current.lies; a++) {
             for (int b = a + 1; b < current.lies; b++) {
-                if (foresight.helpEachOther(stranger, a, b)) {
+                if (foresight.helpEachOther(current, stranger, a, b)) {
                     pairs++;
                     first = first == NONE ? 10 * a + b : first;
                 }
@@ -249,7 +249,7 @@ public final class NodBets {
         if (current.wasTold(stranger, lie)) {
             return STATE;
         }
-        Mind mind = foresight.mindOf(stranger);
+        Mind mind = foresight.mindOf(current, stranger);
         for (int eaten = 0; eaten <= MOST_SUPPERS; eaten++) {
             if (mind.wouldNod(current, lie)) {
                 return eaten;
@@ -270,7 +270,7 @@ public final class NodBets {
         int sets = 0;
         int least = NONE;
         for (int doubts = 0; doubts < 1 << Town.TOPICS; doubts++) {
-            if (foresight.goesSo(stranger, current.trusts[stranger], doubts)) {
+            if (foresight.goesSo(current, stranger, current.trusts[stranger], doubts)) {
                 sets++;
                 least = least == NONE ? doubts : least;
             }
@@ -288,7 +288,7 @@ public final class NodBets {
         }
         int trusts = 0;
         for (int trust = 0; trust <= Town.MOST_TRUST; trust++) {
-            if (foresight.goesSo(stranger, trust, current.doubts[stranger])) {
+            if (foresight.goesSo(current, stranger, trust, current.doubts[stranger])) {
                 trusts |= 1 << trust;
             }
         }
@@ -308,7 +308,7 @@ public final class NodBets {
         }
         int strangers = 0;
         for (int s = 0; s < current.strangers; s++) {
-            if (foresight.goesSo(s, current.trusts[s], current.doubts[s])) {
+            if (foresight.goesSo(current, s, current.trusts[s], current.doubts[s])) {
                 strangers |= 1 << s;
             }
         }
@@ -326,7 +326,7 @@ public final class NodBets {
         if (refusal != 0) {
             return refusal;
         }
-        int above = foresight.waysToNod(stranger, k, c);
+        int above = foresight.waysToNod(current, stranger, k, c);
         int below = foresight.waysInAll();
         int divisor = commonDivisor(above, below);
         return unfound((what == 0 ? above : below) / divisor);
@@ -375,7 +375,7 @@ public final class NodBets {
         if (!current.hasLie(lie) || what < 0 || what > 1) {
             return BAD;
         }
-        return asks.answer(lie, what);
+        return asks.answer(current, lie, what);
     }
 
     public int trace(int i) {
@@ -423,7 +423,7 @@ public final class NodBets {
         if (!rows.hasPlaces(row, i, 2 * n)) {
             return found(NO_PLACE);
         }
-        return foresight.takeTelling(rows, row, i, n) ? 0 : BAD;
+        return foresight.takeTelling(current, rows, row, i, n) ? 0 : BAD;
     }
 
     /** At least 1 for all numbers, so that it can always divide. */
@@ -929,14 +929,14 @@ public final class NodBets {
             switch (kind) {
                 case Kinds.ABSURD: return 2 * weight;
                 case Kinds.HABIT: return Math.max(weight - 2 * nodsAlike, 0);
-                case Kinds.PROOF: return proofNeed(weight, nodsAlike);
-                case Kinds.LAME: return toldSoFar < 2 ? TOO_LAME : proofNeed(weight, nodsAlike);
+                case Kinds.PROOF:
+                case Kinds.LAME:
+                    if (kind == Kinds.LAME && toldSoFar < 2) {
+                        return TOO_LAME;
+                    }
+                    return nodsAlike > 0 ? 0 : PROOF_ALONE + weight;
                 default: return weight;
             }
-        }
-
-        private static int proofNeed(int weight, int nodsAlike) {
-            return nodsAlike > 0 ? 0 : PROOF_ALONE + weight;
         }
     }
 
@@ -944,7 +944,6 @@ public final class NodBets {
     private static final class Foresight {
         static final int MOST_TOLD = 6;
 
-        private final Town town;
         /** Mind d is the stranger's after d lies; those deeper are free to be tried on. */
         private final Mind[] minds = new Mind[MOST_TOLD + 1];
         private final int[] path = new int[MOST_TOLD];
@@ -955,20 +954,19 @@ public final class NodBets {
         private final int[] tellingNods = new int[MOST_TOLD];
         private int tellingLength = 0;
 
-        Foresight(Town town) {
-            this.town = town;
+        Foresight() {
             for (int depth = 0; depth <= MOST_TOLD; depth++) {
                 minds[depth] = new Mind();
             }
         }
 
-        Mind mindOf(int stranger) {
+        Mind mindOf(Town town, int stranger) {
             minds[0].enter(town, stranger);
             return minds[0];
         }
 
-        int nodsNow(int stranger) {
-            Mind mind = mindOf(stranger);
+        int nodsNow(Town town, int stranger) {
+            Mind mind = mindOf(town, stranger);
             int untold = town.untold(stranger);
             int nods = 0;
             for (int lie = 0; lie < town.lies; lie++) {
@@ -979,11 +977,11 @@ public final class NodBets {
             return nods;
         }
 
-        void seekOrder(int stranger, int lies) {
-            mindOf(stranger);
+        void seekOrder(Town town, int stranger, int lies) {
+            mindOf(town, stranger);
             bestLength = 0;
             bestNodded = -1;
-            seekOrderFrom(0, lies, 0);
+            seekOrderFrom(town, 0, lies, 0);
         }
 
         int bestNods() {
@@ -994,7 +992,7 @@ public final class NodBets {
             return k >= 0 && k < bestLength ? best[k] : NONE;
         }
 
-        private void seekOrderFrom(int depth, int left, int nodded) {
+        private void seekOrderFrom(Town town, int depth, int left, int nodded) {
             // Orders come by numbers, so that one that is only as good as an earlier one is not wanted.
             if (nodded + Integer.bitCount(left) <= bestNodded) {
                 return;
@@ -1005,8 +1003,8 @@ public final class NodBets {
             }
             for (int lie = 0; lie < town.lies; lie++) {
                 if ((left >> lie & 1) != 0) {
-                    boolean nods = tryNext(depth, lie);
-                    seekOrderFrom(depth + 1, left & ~(1 << lie), nods ? nodded + 1 : nodded);
+                    boolean nods = tryNext(town, depth, lie);
+                    seekOrderFrom(town, depth + 1, left & ~(1 << lie), nods ? nodded + 1 : nodded);
                 }
             }
         }
@@ -1020,18 +1018,20 @@ public final class NodBets {
         }
 
         /** Whether a stranger nods at a lie as the next behind those of the path. */
-        private boolean tryNext(int depth, int lie) {
+        private boolean tryNext(Town town, int depth, int lie) {
             path[depth] = lie;
+            boolean nods = minds[depth].wouldNod(town, lie);
             minds[depth + 1].become(minds[depth]);
-            return minds[depth + 1].hear(town, lie);
+            minds[depth + 1].hearAs(town, lie, nods);
+            return nods;
         }
 
-        int fewestAhead(int stranger, int lie) {
-            mindOf(stranger);
+        int fewestAhead(Town town, int stranger, int lie) {
+            mindOf(town, stranger);
             int others = town.untold(stranger) & ~(1 << lie);
             int most = Integer.bitCount(others);
             for (int ahead = 0; ahead <= most; ahead++) {
-                if (comesInFrom(0, others, lie, ahead)) {
+                if (comesInFrom(town, 0, others, lie, ahead)) {
                     return ahead;
                 }
             }
@@ -1043,14 +1043,14 @@ public final class NodBets {
             return path[0];
         }
 
-        private boolean comesInFrom(int depth, int left, int lie, int ahead) {
+        private boolean comesInFrom(Town town, int depth, int left, int lie, int ahead) {
             if (depth >= ahead || depth >= MOST_TOLD) {
                 return minds[depth].wouldNod(town, lie);
             }
             for (int next = 0; next < town.lies; next++) {
                 if ((left >> next & 1) != 0) {
-                    tryNext(depth, next);
-                    if (comesInFrom(depth + 1, left & ~(1 << next), lie, ahead)) {
+                    tryNext(town, depth, next);
+                    if (comesInFrom(town, depth + 1, left & ~(1 << next), lie, ahead)) {
                         return true;
                     }
                 }
@@ -1058,47 +1058,47 @@ public final class NodBets {
             return false;
         }
 
-        int deadLies(int stranger) {
-            mindOf(stranger);
+        int deadLies(Town town, int stranger) {
+            mindOf(town, stranger);
             int untold = town.untold(stranger);
-            return deadFrom(0, untold, untold);
+            return deadFrom(town, 0, untold, untold);
         }
 
         /** Which of the lies that have seemed dead so far still do, after all orders of those left. */
-        private int deadFrom(int depth, int left, int seeming) {
+        private int deadFrom(Town town, int depth, int left, int seeming) {
             int dead = seeming;
             if (depth >= MOST_TOLD) {
                 return dead;
             }
             for (int lie = 0; lie < town.lies && dead != 0; lie++) {
                 if ((left >> lie & 1) != 0) {
-                    if (tryNext(depth, lie)) {
+                    if (tryNext(town, depth, lie)) {
                         dead &= ~(1 << lie);
                     }
-                    dead = deadFrom(depth + 1, left & ~(1 << lie), dead);
+                    dead = deadFrom(town, depth + 1, left & ~(1 << lie), dead);
                 }
             }
             return dead;
         }
 
-        boolean helpEachOther(int stranger, int a, int b) {
+        boolean helpEachOther(Town town, int stranger, int a, int b) {
             if (town.wasTold(stranger, a) || town.wasTold(stranger, b)) {
                 return false;
             }
-            mindOf(stranger);
-            return bringsIn(a, b) || bringsIn(b, a);
+            mindOf(town, stranger);
+            return bringsIn(town, a, b) || bringsIn(town, b, a);
         }
 
-        private boolean bringsIn(int ahead, int lie) {
+        private boolean bringsIn(Town town, int ahead, int lie) {
             if (minds[0].wouldNod(town, lie)) {
                 return false;
             }
-            tryNext(0, ahead);
+            tryNext(town, 0, ahead);
             return minds[1].wouldNod(town, lie);
         }
 
         /** Whether every lie that the row tells is one; only then it is kept for the calls below. */
-        boolean takeTelling(Rows rows, int row, int i, int n) {
+        boolean takeTelling(Town town, Rows rows, int row, int i, int n) {
             for (int t = 0; t < n; t++) {
                 int lie = rows.itemAt(row, i + 2 * t);
                 if (!town.hasLie(lie)) {
@@ -1111,8 +1111,8 @@ public final class NodBets {
             return true;
         }
 
-        boolean goesSo(int stranger, int trust, int doubts) {
-            Mind mind = mindOf(stranger);
+        boolean goesSo(Town town, int stranger, int trust, int doubts) {
+            Mind mind = mindOf(town, stranger);
             mind.trust = trust;
             mind.doubts = doubts;
             for (int t = 0; t < tellingLength; t++) {
@@ -1125,9 +1125,9 @@ public final class NodBets {
         }
 
         /** Of waysInAll, each as likely as another, those in which a stranger nods k times or more. */
-        int waysToNod(int stranger, int k, int c) {
-            mindOf(stranger);
-            return waysFrom(0, k, c);
+        int waysToNod(Town town, int stranger, int k, int c) {
+            mindOf(town, stranger);
+            return waysFrom(town, 0, k, c);
         }
 
         /** Each lie told goes one of ten ways, c of which let a nod slip. */
@@ -1139,7 +1139,7 @@ public final class NodBets {
             return ways;
         }
 
-        private int waysFrom(int depth, int wanted, int c) {
+        private int waysFrom(Town town, int depth, int wanted, int c) {
             if (depth >= tellingLength || depth >= MOST_TOLD) {
                 return wanted <= 0 ? 1 : 0;
             }
@@ -1147,13 +1147,13 @@ public final class NodBets {
             boolean nods = minds[depth].wouldNod(town, lie);
             minds[depth + 1].become(minds[depth]);
             minds[depth + 1].hearAs(town, lie, false);
-            int unnodded = waysFrom(depth + 1, wanted, c);
+            int unnodded = waysFrom(town, depth + 1, wanted, c);
             if (!nods) {
                 return 10 * unnodded;
             }
             minds[depth + 1].become(minds[depth]);
             minds[depth + 1].hearAs(town, lie, true);
-            return c * unnodded + (10 - c) * waysFrom(depth + 1, wanted - 1, c);
+            return c * unnodded + (10 - c) * waysFrom(town, depth + 1, wanted - 1, c);
         }
     }
 
@@ -1167,29 +1167,24 @@ public final class NodBets {
         /** The longest chain of bodies has five; a deeper one cannot be. */
         private static final int DEEPEST = 20;
 
-        private final Town town;
         private final int[] traced = new int[MOST_TRACED];
         private int tracedLength = 0;
 
-        Asks(Town town) {
-            this.town = town;
-        }
-
-        int answer(int lie, int what) {
+        int answer(Town town, int lie, int what) {
             tracedLength = 0;
-            return what == SIZE ? sizeOf(lie, 0) : markOf(lie, 0);
+            return what == SIZE ? sizeOf(town, lie, 0) : markOf(town, lie, 0);
         }
 
         int traceAt(int i) {
             return i >= 0 && i < tracedLength ? traced[i] : NONE;
         }
 
-        private int sizeOf(int lie, int depth) {
-            return run(nearestBody(SIZE_BODIES, town.kinds[lie]), lie, depth);
+        private int sizeOf(Town town, int lie, int depth) {
+            return run(town, nearestBody(SIZE_BODIES, town.kinds[lie]), lie, depth);
         }
 
-        private int markOf(int lie, int depth) {
-            return run(nearestBody(MARK_BODIES, town.kinds[lie]), lie, depth);
+        private int markOf(Town town, int lie, int depth) {
+            return run(town, nearestBody(MARK_BODIES, town.kinds[lie]), lie, depth);
         }
 
         private static int nearestBody(int[] bodies, int kind) {
@@ -1200,7 +1195,7 @@ public final class NodBets {
             return bodies[climbing];
         }
 
-        private int run(int body, int lie, int depth) {
+        private int run(Town town, int body, int lie, int depth) {
             if (depth > DEEPEST) {
                 return 0;
             }
@@ -1208,15 +1203,15 @@ public final class NodBets {
             int deeper = depth + 1;
             switch (body) {
                 case 10: return town.weights[lie];
-                case 11: return run(10, lie, deeper) + markOf(lie, deeper);
-                case 12: return -run(11, lie, deeper);
-                case 13: return run(10, lie, deeper) - 100;
-                case 14: return 2 * run(13, lie, deeper);
+                case 11: return run(town, 10, lie, deeper) + markOf(town, lie, deeper);
+                case 12: return -run(town, 11, lie, deeper);
+                case 13: return run(town, 10, lie, deeper) - 100;
+                case 14: return 2 * run(town, 13, lie, deeper);
                 case 20: return lie;
-                case 21: return run(20, lie, deeper) + town.strangersWith(town.nodded, lie);
-                case 22: return run(21, lie, deeper) - 1000;
-                case 23: return run(20, lie, deeper) - sizeOf(lie, deeper);
-                case 24: return 2 * run(21, lie, deeper);
+                case 21: return run(town, 20, lie, deeper) + town.strangersWith(town.nodded, lie);
+                case 22: return run(town, 21, lie, deeper) - 1000;
+                case 23: return run(town, 20, lie, deeper) - sizeOf(town, lie, deeper);
+                case 24: return 2 * run(town, 21, lie, deeper);
                 default: return 0;
             }
         }

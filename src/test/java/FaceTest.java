@@ -72,6 +72,9 @@ public final class FaceTest {
             check.holds(one + " is static", Modifier.isStatic(one.getModifiers()));
             check.holds(one + " is not public", !Modifier.isPublic(one.getModifiers()));
             staticFieldsAreFinal(one);
+            for (Constructor<?> constructor : one.getDeclaredConstructors()) {
+                check.due(constructor + " is handed nothing of another object", constructor.getParameterCount(), 0);
+            }
             for (Method method : one.getDeclaredMethods()) {
                 check.holds(method + " bears no public name", !(", " + FACE).contains(", " + method.getName() + " "));
                 check.holds(method + " takes seven at most", method.getParameterCount() <= 7);
@@ -104,5 +107,24 @@ public final class FaceTest {
         check.holds("no Exact", !code.contains("Exact"));
         check.holds("of System, arraycopy alone", !Pattern.compile("System\\.(?!arraycopy)").matcher(code).find());
         check.holds("signs 1 to 127 alone", text.chars().allMatch(sign -> sign > 0 && sign < 128));
+        methodsAreShort(text.split("\n"));
+    }
+
+    /** A method begins by a line that ends with ") {" and ends by the next brace that stands as far to the right. */
+    private static void methodsAreShort(String[] lines) {
+        Pattern begins = Pattern.compile("( {4}| {8})(?!(if|for|while|switch)\\b)[\\w\\[].*\\) \\{");
+        int methods = 0;
+        for (int from = 0; from < lines.length; from++) {
+            if (begins.matcher(lines[from]).matches()) {
+                methods++;
+                String closing = lines[from].replaceAll("\\S.*", "}");
+                int to = from;
+                while (to < lines.length && !lines[to].equals(closing)) {
+                    to++;
+                }
+                check.holds(lines[from].strip() + " has sixty lines at most: " + (to - from + 1), to - from + 1 <= 60);
+            }
+        }
+        check.holds("there are methods for each call of the face: " + methods, methods >= FACE.split(", ").length);
     }
 }
